@@ -554,12 +554,12 @@ public final class SpentPasses {
         }
 
         int of(int user, int what) {
-            boolean there = isWithin(user, 0, MOST_USERS - 1) && isWithin(what, 0, USER_CELLS - 1);
+            boolean there = user >= 0 && user < MOST_USERS && what >= 0 && what < USER_CELLS;
             return there ? cells[FIRST_USER + user * USER_CELLS + what] : 0;
         }
 
         private void put(int user, int what, int value) {
-            if (isWithin(user, 0, MOST_USERS - 1) && isWithin(what, 0, USER_CELLS - 1)) {
+            if (user >= 0 && user < MOST_USERS && what >= 0 && what < USER_CELLS) {
                 cells[FIRST_USER + user * USER_CELLS + what] = value;
             }
         }

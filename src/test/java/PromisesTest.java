@@ -157,7 +157,8 @@ public final class PromisesTest {
             faultOf(text, text.length());
         }
         String[] lastIsWrong = {"s", "1", " ", "S0", "S7", "S ", "Su", "S11", "S1U", "S1 ", "S1x", "S1s", "S1m",
-            "S1u3", "S1us", "S1u26", "S1u2:", "S1u251", "S1u25/", "S1u0003", "S1u00026", "S1u000251", "S1u0000004",
+            "S1u3", "S1us", "S1u26", "S1u2:", "S1u0:", "S1u00:", "S1u0/", "S1u00/", "S1u0000001:", "S1u0000001/",
+            "S1u000000:", "S1u000000/", "S1u/", "S1u251", "S1u25/", "S1u0003", "S1u00026", "S1u000251", "S1u0000004",
             "S1u00000000", "S1u00000031", "S1u0000003x", "S1u00000001x", "S1u00000001 ", "S1u00000001s1",
             "S1u00000001s/", "S1u00000001s4", "S1u00000001m1", "S1u00000001s0s", "S1u00000001s0m", "S1u00000001m0s",
             "S1u00000002s0u", "S1u00000002m0u", "S1u00000001u00000001s0s0", "S1u00000001u00000001s0s1m",
@@ -541,6 +542,7 @@ public final class PromisesTest {
         due("none", x.fitting(1, 0), 0);
         due("none is the least", x.fitting(1, 1), NONE);
         due("0 may be the least", deskOf("S1u00000001").fitting(0, 1), 0);
+        due("0 alone", deskOf("S1u00000001").fitting(0, 0), 1);
         due("a narrow window", deskOf("S1" + SQUARES).fitting(0, 0), 2);
         due("a narrow window", deskOf("S1" + SQUARES).fitting(0, 1), 25);
         for (int what : new int[] {-1, 2, MIN, MAX}) {
@@ -564,6 +566,25 @@ public final class PromisesTest {
         x.attempt(0, 241);
         x.hear();
         due("10 behind the second", x.thief(0), 25);
+        SpentPasses odd = deskOf("S1" + SQUARES);
+        odd.attempt(0, 94);
+        odd.hear();
+        due("7 behind it", odd.thief(0), 25);
+        odd.attempt(0, 0);
+        odd.hear();
+        due("by one of two", odd.thief(0), 25);
+        SpentPasses second = deskOf("S1u00000009u00000009");
+        second.attempt(1, 0);
+        second.hear();
+        due("0 of user 1, heard of the second", second.thief(1), 0);
+        due("0 of user 1, heard of the first", second.thief(0), NONE);
+        SpentPasses two = deskOf("S2" + SQUARES);
+        two.attempt(0, 248);
+        two.hear();
+        two.attempt(0, 0);
+        two.hear();
+        two.renew(0, 0, 3, 2);
+        due("248 by 1, but 0 by 2", two.thief(0), 0);
         SpentPasses itself = deskOf("S1" + SQUARES);
         itself.attempt(0, 246);
         itself.hear();
@@ -625,11 +646,15 @@ public final class PromisesTest {
         due("missed twice, then not taken", x.judge(4, 2000200010004005L), NONE);
         due("missed twice, then sent: OWN", x.judge(4, 2000200010003002L), NONE);
         due("out of step", x.judge(3, 200020006000L), NONE);
+        due("out of step, told by a wrong figure", x.judge(3, 200020006002L), 2);
         due("widened", x.judge(4, 2000200073006001L), NONE);
         due("fits then", x.judge(2, 73005016L), NONE);
         due("the first of two", x.judge(4, 1000300430053005L), 2);
         due("a figure short", x.judge(2, 7300), 0);
         SpentPasses one = deskOf("S1u00000001");
+        due("sent once", one.judge(1, 1000), NONE);
+        due("0 fits", one.judge(1, 5000), NONE);
+        due("251 is no number, though 0 fits", one.judge(1, 5251), 0);
         due("sent twice", one.judge(2, 10001000), 1);
         due("missed twice", one.judge(2, 20002000), 1);
         due("spent", one.judge(4, 1000300040006000L), NONE);
@@ -826,6 +851,8 @@ public final class PromisesTest {
         due("the seed of days", x.seed(0), 1442695040888963407L);
         due("two days", x.drawn(2), 1);
         due("the seed of days", x.seed(0), 1876011003808476466L);
+        due("three days", x.drawn(3), 1);
+        x.seed(0);
         due("four days", x.drawn(4), 2);
         x.seed(0);
         due("seven days", x.drawn(7), 3);
