@@ -1,9 +1,15 @@
 import java.util.Random;
 
-/** Runs of calls by fixed seeds: the class and the model have to answer alike, and to stand alike behind each call. */
+/**
+ * Runs of calls by fixed seeds: the class and the model have to answer alike, and to stand alike behind each refused
+ * call, behind some others, and at the end.
+ */
 public final class ModelRunsTest {
-    private static final int RUNS = 1500;
-    private static final int CALLS = 512;
+    private static final int RUNS = 8000;
+    /** What an object answers behind so many calls is free. */
+    private static final int MOST_CALLS = 512;
+    /** How many calls a step of a run is at most (behind a text's last letter come two more), and a look at all that stands. */
+    private static final int STEP = 3, LOOK = 7 + 4 * 8 + 8 + 2;
     private static final int[] ODD = {-1, -2, -9, 4, 5, 7, 11, 15, 31, 61, 81, 100, 251, 256, 1000,
         Integer.MIN_VALUE, Integer.MAX_VALUE, Integer.MAX_VALUE - 1, Integer.MIN_VALUE + 1, 46341, 65536};
 
@@ -16,6 +22,8 @@ public final class ModelRunsTest {
     /** Numbers of few kinds make rows that soon go round, so that much fits by chance. */
     private final int kinds;
     private boolean wrong = false;
+    private int asked = 0;
+    private boolean refused = false;
 
     private ModelRunsTest(int run) {
         this.run = run;
@@ -27,10 +35,7 @@ public final class ModelRunsTest {
         int wrongRuns = 0;
         for (int run = 0; run < RUNS && wrongRuns < 5; run++) {
             ModelRunsTest test = new ModelRunsTest(run);
-            for (int call = 0; call < CALLS && !test.wrong; call++) {
-                test.call();
-                test.compareStanding();
-            }
+            test.runOnce();
             wrongRuns += test.wrong ? 1 : 0;
         }
         System.out.println(wrongRuns == 0 ? RUNS + " runs are as the model's" : wrongRuns + " runs are not as the model's");
@@ -39,7 +44,19 @@ public final class ModelRunsTest {
         }
     }
 
+    private void runOnce() {
+        while (asked + STEP + 2 * LOOK <= MOST_CALLS && !wrong) {
+            call();
+            if (refused || below(12) == 0) {
+                compareStanding();
+            }
+        }
+        compareStanding();
+    }
+
     private void due(String call, long got, long want) {
+        asked++;
+        refused = want < 0;
         calls.append(call).append(' ').append(want).append('\n');
         if (got != want && !wrong) {
             wrong = true;
@@ -50,6 +67,7 @@ public final class ModelRunsTest {
     }
 
     private void same(String what, long got, long want) {
+        asked++;
         if (got != want && !wrong) {
             wrong = true;
             String all = calls.toString();
@@ -72,8 +90,7 @@ public final class ModelRunsTest {
         }
         long days = real.seed(7);
         same("days", days, model.seed(7));
-        real.seed(days);
-        model.seed(days);
+        same("days at once again", real.seed(days), model.seed(days));
     }
 
     private int below(int n) {

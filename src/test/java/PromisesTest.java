@@ -97,6 +97,11 @@ public final class PromisesTest {
         due("again 1", x.again(1), STATE);
         due("seed", x.seed(5), 0);
         due("another object has its own", new SpentPasses().seed(1), 0);
+        SpentPasses used = deskOf("S1u00000030");
+        for (int call = 14; call < 512; call++) {
+            due("call " + call, used.attempt(0, 1), 0);
+        }
+        due("the 512th call", used.count(5), 14);
     }
 
     private static void write() {
