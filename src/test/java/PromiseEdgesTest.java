@@ -186,6 +186,7 @@ public final class PromiseEdgesTest {
             x.send(0);
             due("once more", x.desk(), 1);
             due("as at first: OWN", x.user(0, 3), 5);
+            due("as at first: THE WIRE", x.count(3), NONE);
             Sentences.spell(x, "S1");
             due("of none", x.desk(), 0);
             due("USERS", x.count(1), 0);
@@ -578,7 +579,11 @@ public final class PromiseEdgesTest {
     private static void dueUndone(String act, ToLongFunction<SpentPasses> done) {
         Supplier<SpentPasses> made = () -> {
             SpentPasses x = deskOf("S1" + SQUARES + SQUARES + "s0m1");
+            x.keep(0);
             x.hear();
+            x.keep(1);
+            x.see(0, 1, 4);
+            x.seed(5);
             return x;
         };
         SpentPasses changed = made.get();

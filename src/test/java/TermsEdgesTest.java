@@ -277,7 +277,8 @@ public final class TermsEdgesTest {
                 due("renew by " + v, x.renew(0, 0, v, 1), OUTSIDE);
             }
         });
-        says("8", "BEHIND a NUMBER v by a SALT (a NUMBER) comes what is left of (v times v, and SALT, together) by 251;", () -> {
+        String rule = "BEHIND a NUMBER v by a SALT (a NUMBER) comes what is left of (v times v, and SALT, together) by 251;";
+        says("8", rule, () -> {
             SpentPasses x = new SpentPasses();
             due("225 and 25: not round yet", x.behind(15, 25, 1), 250);
             due("225 and 26: just round", x.behind(15, 26, 1), 0);
@@ -727,6 +728,11 @@ public final class TermsEdgesTest {
             dueFault("S1" + SQUARES + (char) 0, 11);
             dueFault("S1" + SQUARES + (char) 255, 11);
             dueFault("S1" + SQUARES + "S1", 11);
+            dueFault((char) ('S' + 128) + "1", 0);
+            dueFault("S" + (char) ('1' + 128), 1);
+            dueFault("S1" + (char) ('u' + 128), 2);
+            dueFault("S1u00000001" + (char) ('s' + 128), 11);
+            dueFault("S1u00000001s" + (char) ('0' + 128), 12);
         });
         says("4", "(its length set aside;", () -> {
             String full = "S1u00000030u00000030u00000030" + "s0".repeat(25) + "s";
@@ -774,6 +780,19 @@ public final class TermsEdgesTest {
             due("ANEW", x.count(5), 5);
             x.widen(1);
             due("WIDENED", x.count(5), 6);
+            SpentPasses other = deskOf("S1" + SQUARES + "s0");
+            other.write('x');
+            other.wipe();
+            other.fault();
+            other.see(0, 0, 0);
+            other.unsee();
+            other.seed(1);
+            other.drawn(60);
+            other.judge(1, 1000);
+            other.loss(0, 1, 1, true);
+            other.keep(0);
+            due("no other call is one", other.count(5), 0);
+            due("no other call is one", other.undo(), STATE);
         });
         says("15, 31", "(never more than 14;", () -> {
             SpentPasses x = new SpentPasses();
@@ -1152,7 +1171,8 @@ public final class TermsEdgesTest {
     // ---- part 3
 
     private static void seen() {
-        says("21, 23", "SEEN: that by an unknown SEED (a NUMBER) and the SALT of a USER pass i (0 to 29) is v (a NUMBER):", () -> {
+        String words = "SEEN: that by an unknown SEED (a NUMBER) and the SALT of a USER pass i (0 to 29) is v (a NUMBER):";
+        says("21, 23", words, () -> {
             SpentPasses x = deskOf("S1" + SQUARES);
             due("i -1", x.see(0, -1, 0), OUTSIDE);
             due("i 30", x.see(0, 30, 0), OUTSIDE);
@@ -1244,8 +1264,8 @@ public final class TermsEdgesTest {
     }
 
     private static void share() {
-        says("24", "SHARE of a USER: if USERS come one by one, in each order as likely: how many more NUMBERS FIT any that has come"
-            + " in the mean when it has come: a FRACTION.", () -> {
+        says("24", "SHARE of a USER: if USERS come one by one, in each order as likely: how many more NUMBERS FIT any that"
+            + " has come in the mean when it has come: a FRACTION.", () -> {
                 dueShare("S6" + LONGER, 0, 12, 1);
                 dueShare("S1" + NOUGHTS, 0, 1, 1);
                 dueShare("S1u25000001", 0, 2, 1);
@@ -1277,13 +1297,14 @@ public final class TermsEdgesTest {
             dueGuess("S1" + NOUGHTS, -1, OUTSIDE, OUTSIDE);
             dueGuess("S1" + NOUGHTS, 4, OUTSIDE, OUTSIDE);
         });
-        says("25", "each of all as likely, by itself, all looked at as it is now: that one of them at least FITS it: a FRACTION.", () -> {
-            dueGuess("S1" + NOUGHTS, 2, 501, 63001);
-            dueGuess("S1u00000001", 3, 188251, 15813251);
-            dueGuess("S6" + LONGER, 1, 12, 251);
-            dueGuess("S6" + LONGER, 3, 15813251 - 239 * 239 * 239, 15813251);
-            dueGuess("S1u00000001s0", 3, 0, 1);
-        });
+        says("25", "each of all as likely, by itself, all looked at as it is now: that one of them at least FITS it:"
+            + " a FRACTION.", () -> {
+                dueGuess("S1" + NOUGHTS, 2, 501, 63001);
+                dueGuess("S1u00000001", 3, 188251, 15813251);
+                dueGuess("S6" + LONGER, 1, 12, 251);
+                dueGuess("S6" + LONGER, 3, 15813251 - 239 * 239 * 239, 15813251);
+                dueGuess("S1u00000001s0", 3, 0, 1);
+            });
     }
 
     private static void dueLoss(String text, int r, int x, int above, int below) {
@@ -1379,6 +1400,11 @@ public final class TermsEdgesTest {
             SpentPasses x = deskOf("S1u00000001u00000001u00000001u00000001");
             dueDrawn("a day", x, 0, 1, 1);
             dueDrawn("the same day", x, 0, 1, 1);
+            x.seed(0);
+            x.drawn(1);
+            due("days go on, but 3 has its one pass as now: 0 and 3", x.drawn(5), 2);
+            x.miss(3);
+            dueDrawn("3 has none now", x, 0, 6, 1);
             dueDrawn("what is sent, but not taken", deskOf("S1" + SQUARES + "m0"), 0, 7, 0);
         });
         says("28", "(Nothing changes but THE SEED OF DAYS.)", () -> {
@@ -1501,6 +1527,10 @@ public final class TermsEdgesTest {
                 SpentPasses x = deskOf("S1u222092" + n);
                 due("TAIL", x.user(0, 9), 47);
                 due("LOOP", x.user(0, 10), 2);
+                x.send(0);
+                due("TAIL, whatever OWN is", x.user(0, 9), 47);
+                due("LOOP, whatever OWN is", x.user(0, 10), 2);
+                x.undo();
                 x.renew(0, 1, 3, 1);
                 due("TAIL anew", x.user(0, 9), 0);
                 due("LOOP anew", x.user(0, 10), 6);
