@@ -6,6 +6,7 @@ import java.lang.reflect.Modifier;
 import java.nio.charset.StandardCharsets;
 import java.nio.file.Files;
 import java.nio.file.Path;
+import java.util.ArrayList;
 import java.util.Arrays;
 import java.util.List;
 import java.util.Set;
@@ -16,6 +17,7 @@ import java.util.regex.Pattern;
 /** The face of the document, and those rules of LANGUAGE.md that can be read off the source and the class. */
 public final class LanguageTest {
     private static final Path SOURCE = Path.of("src/main/java/SpentPasses.java");
+    private static final Path DOCUMENT = Path.of("../shared/DOC.md");
     private static final String[] FACE = {
         "int write(int)", "int wipe()", "int fault()", "int desk()", "int user(int,int)", "int pass(int,int)",
         "int behind(int,int,int)", "int send(int)", "int miss(int)", "int attempt(int,int)", "int hear()",
@@ -32,7 +34,13 @@ public final class LanguageTest {
     public static void main(String[] args) throws IOException {
         face();
         fieldsAndMethods();
-        source(Files.readString(SOURCE, StandardCharsets.US_ASCII));
+        String source = Files.readString(SOURCE, StandardCharsets.US_ASCII);
+        source(source);
+        if (Files.isReadable(DOCUMENT)) {
+            document(Files.readString(DOCUMENT, StandardCharsets.UTF_8), source);
+        } else {
+            System.out.println("there is no " + DOCUMENT + ": the face was not compared with it");
+        }
         System.out.println(wrong == 0 ? "the language is kept to" : wrong + " rules are broken");
         if (wrong != 0) {
             System.exit(1);
@@ -71,6 +79,35 @@ public final class LanguageTest {
         Constructor<?>[] constructors = main.getDeclaredConstructors();
         must(constructors.length == 1 && constructors[0].getParameterCount() == 0
             && Modifier.isPublic(constructors[0].getModifiers()), "one public constructor without arguments");
+    }
+
+    /** The face and its headings stand in the source in the document's own words, and in its order. */
+    private static void document(String document, String source) {
+        String block = document.substring(document.indexOf("```java\n"), document.indexOf("\n}\n```"));
+        List<String> told = new ArrayList<>();
+        Matcher heads = Pattern.compile("public ([^;{]*)[;{]").matcher(block);
+        while (heads.find()) {
+            told.add("public " + heads.group(1).trim());
+        }
+        must(told.size() == FACE.length + 3, "the document's face has a class, its constants, a constructor, its methods");
+        inOrder(source, told);
+        Matcher headings = Pattern.compile("Ahead of the calls `([a-z]+)`[^\n]* says: (---- [a-z, ]+)\\.").matcher(document);
+        int groups = 0;
+        while (headings.find()) {
+            groups++;
+            must(Pattern.compile("// " + headings.group(2) + "\n\n    public [a-z]+ " + headings.group(1) + "\\(")
+                .matcher(source).find(), "ahead of " + headings.group(1) + ": " + headings.group(2));
+        }
+        must(groups == 6, "six headings");
+    }
+
+    private static void inOrder(String source, List<String> lines) {
+        int from = 0;
+        for (String line : lines) {
+            int at = source.indexOf(line, from);
+            must(at >= 0, "in the document's order: " + line);
+            from = at < 0 ? from : at + line.length();
+        }
     }
 
     private static String valueOf(Field field) {
